@@ -260,7 +260,7 @@ public final class LacedHouse {
             return found(BEYOND);
         }
         int best = 0;
-        int least = Integer.MAX_VALUE;
+        int least = House.GREATEST_STRAIN + 1;
         for (int kind = 0; kind < Kinds.COUNT; kind++) {
             startTrial();
             trial.kind[guest] = kind;
