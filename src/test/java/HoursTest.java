@@ -37,7 +37,14 @@ public final class HoursTest {
         due.is("hour 99960", y.now(0), 99960);
         due.is("go too far", y.go(40), Due.STATE);
         due.is("beyond is asked first", y.go(61), Due.BEYOND);
-        y.go(39);
+        y.party(20);
+        due.is("a party as far as it goes", y.party(19), y.now(2));
+        due.is("a party's hours", y.now(0), 99999);
+        LacedHouse w = new LacedHouse();
+        for (int i = 0; i < 1666; i++) {
+            w.go(60);
+        }
+        due.is("just as far as it goes", w.go(39), w.now(2));
         due.is("as far as it goes", y.now(0), 99999);
         due.is("no hour more", y.go(1), Due.STATE);
         due.is("no party more", y.party(1), Due.STATE);
@@ -209,6 +216,17 @@ public final class HoursTest {
         due.is("boy is there", x.now(5), 0b1101);
         due.is("two in the hall", x.now(6), 0b1001);
         due.is("closed", x.now(7), 1 << 3 | 1 << 7);
+        x.cell(0, 0);
+        x.cell(15, 0);
+        due.is("closed at both ends", x.now(7), 1 | 1 << 3 | 1 << 7 | 1 << 15);
+        x.change(0, 3, 7);
+        x.change(0, 4, 9999);
+        x.change(1, 4, 0);
+        due.is("the first one is not at its aim", x.now(5), 0b1100);
+        due.is("the first one is stuck", x.now(4), 0b0001);
+        x.change(0, 3, 0);
+        x.change(0, 4, 0);
+        x.change(1, 4, 1);
         x.change(0, 5, 1);
         x.change(1, 5, 1);
         due.is("home is not in the hall", x.now(6), 0b1000);

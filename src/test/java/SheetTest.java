@@ -107,6 +107,12 @@ public final class SheetTest {
         x.sheet(0, 32, 1);
         x.write(0, 0, 65536 + 12);
         due.is("32 bits", x.load(0), 0);
+        Due.tell(x, 0, 8, 128 + 5);
+        due.is("no fewer than 8 bits", x.load(0), 0);
+        Due.tell(x, 0, 16, 32768 + 5);
+        due.is("no fewer than 16 bits", x.load(0), 0);
+        Due.tell(x, 0, 32, Integer.MIN_VALUE + 5);
+        due.is("no fewer than 32 bits", x.load(0), 0);
         x.sheet(0, 16, 0);
         due.is("a sheet of none has no number 0", x.write(0, 0, 0), Due.BEYOND);
     }

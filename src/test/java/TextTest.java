@@ -97,14 +97,14 @@ public final class TextTest {
             "dog to 1 to 2", "dog at;dog", "at 3", "size 3", "to 3", "cell", "cell 16 3", "cell 1", "cell 1;", "cell 1 41",
             "cell 1 2 3", "cell x", "measure", "measure 6 20", "measure 5", "measure 5 15", "measure 5 37", "measure 5 x",
             "cord", "cord 1000", "cord x", "cord 5 5", "cord 9999", "cord 10000", "dog;cord 5;cell 3", "dog #", "cord #",
-            "cook at 3#", "dog at 3 cord 5"};
+            "cook at 3#", "dog at 3 cord 5", "dord 5", "xuest", "dog it 3", "dox", "mell 3 3"};
         int[] want = {0, 1, 3, 0, 0, 4, 5, 4, 4, 4, 0, 0, 0,
             6, 7, 7, 7, 10, 8, 9, 9, 6,
             7, 11, 9, 9, 9, 11,
             9, 6, 0, 0, 0, 4, 5, 6, 6, 7,
             9, 5, 7, 8, 9, 10, 10, 10,
             4, 5, 5, 7, 5, 5, 17, 4, 5,
-            9, 9};
+            9, 9, 0, 0, 4, 0, 0};
         due.is("as many", texts.length, want.length);
         for (int i = 0; i < texts.length; i++) {
             LacedHouse x = new LacedHouse();

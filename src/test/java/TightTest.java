@@ -77,6 +77,9 @@ public final class TightTest {
         // Snapped at once the strain stays at 63; the others strain on and on.
         LacedHouse z = Due.told("guest;cord 40;measure 0 23");
         due.is("which snaps soonest may be least", z.kindFor(0, 60), bestKindByHand(60));
+        x.set(1, 9999);
+        x.set(2, 1);
+        due.is("the greatest strain", x.kindFor(0, 60), Due.GUEST);
         due.is("no 61 hours", x.kindFor(0, 61), Due.BEYOND);
         due.is("no -1 hours", x.kindFor(0, -1), Due.BEYOND);
         due.is("no guest 1", x.kindFor(1, 0), Due.BEYOND);
@@ -112,11 +115,16 @@ public final class TightTest {
         x.change(0, 0, Due.COOK);
         due.is("a cook of 16", x.sizeFor(0, 1), 16);
         due.is("with butter of 24", x.sizeFor(0, 4), 24);
+        due.is("60 hours", x.sizeFor(0, 60), 24);
         due.is("no 61 hours", x.sizeFor(0, 61), Due.BEYOND);
         due.is("no -1 hours", x.sizeFor(0, -1), Due.BEYOND);
         due.is("no guest 1", x.sizeFor(1, 0), Due.BEYOND);
         due.is("no guest -1", x.sizeFor(-1, 0), Due.BEYOND);
         due.is("its size stays", x.of(0, 2), 10);
+        LacedHouse y = Due.told("guest to 1;cell 1 1");
+        due.is("1 is a size, too", y.sizeFor(0, 1), 1);
+        y.cell(1, 0);
+        due.is("0 is none", y.sizeFor(0, 1), Due.NONE);
     }
 
     private static void send() {
