@@ -31,6 +31,14 @@ final class Due {
         is(what, so ? 1 : 0, 1);
     }
 
+    void same(String what, Object got, Object want) {
+        asked++;
+        if (!got.equals(want)) {
+            wrong++;
+            System.out.println(what + ": " + got + ", due is " + want);
+        }
+    }
+
     void end() {
         System.out.println(asked + " answers, " + wrong + " not as due");
         if (wrong != 0) {

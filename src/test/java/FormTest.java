@@ -27,13 +27,6 @@ public final class FormTest {
         due.end();
     }
 
-    private static void same(String what, Object got, Object want) {
-        if (!got.equals(want)) {
-            System.out.println(what + ": " + got + "\n  due is " + want);
-        }
-        due.holds(what, got.equals(want));
-    }
-
     private static void faceIsTheDocuments() throws Exception {
         Matcher m = Pattern.compile("    public (int|long) (\\w+)\\(([^)]*)\\);").matcher(Files.readString(DOCUMENT));
         Set<String> want = new TreeSet<>();
@@ -52,7 +45,7 @@ public final class FormTest {
             }
         }
         due.is("methods in the document", want.size(), 41);
-        same("face", got, want);
+        due.same("face", got, want);
         due.holds("final", Modifier.isFinal(LacedHouse.class.getModifiers()));
         Constructor<?>[] made = LacedHouse.class.getDeclaredConstructors();
         due.is("constructors", made.length, 1);
