@@ -61,6 +61,13 @@ final class Acts {
         return row;
     }
 
+    /** What changes when a guest comes, the next one by number. */
+    static String[] newGuest(int g, int kind, int cell, int size, int aim) {
+        String row = "guest " + g + " ";
+        return new String[] {"guests " + g + " > " + (g + 1), row + "kind none > " + kind, row + "cell none > " + cell,
+            row + "size none > " + size, row + "aim none > " + aim, row + "stuck none > 0", row + "home none > 0"};
+    }
+
     /** A house in which much was changed, with an image of an earlier hour. */
     static LacedHouse lived() {
         LacedHouse x = Due.told("guest at 3 size 12 to 9;cook;boy at 14 size 7 to 1;cell 4 9;cell 15 33;"

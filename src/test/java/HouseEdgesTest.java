@@ -207,9 +207,7 @@ public final class HouseEdgesTest {
     }
 
     private static String[] newGuest(int g, int kind, int cell) {
-        String row = "guest " + g + " ";
-        return new String[] {"guests " + g + " > " + (g + 1), row + "kind none > " + kind, row + "cell none > " + cell,
-            row + "size none > 10", row + "aim none > " + cell, row + "stuck none > 0", row + "home none > 0"};
+        return Acts.newGuest(g, kind, cell, 10, cell);
     }
 
     private static void guest() {

@@ -16,6 +16,7 @@ public final class SheetEdgesTest {
         as();
         asFindingsInOrder();
         sheet();
+        allAreNothingAgain();
         sheetRefused();
         sheetFindingsInOrder();
         write();
@@ -134,6 +135,19 @@ public final class SheetEdgesTest {
             lived.taken("33: sheet 0 is MISSING then, n " + n, x -> x.sheet(0, 0, n), 0, anew(0, 8, 0, zero, 0));
             lived.taken("33: sheet 3 is MISSING still, n " + n, x -> x.sheet(3, 0, n), 0);
         }
+    }
+
+    private static LacedHouse fullOfSevens() {
+        LacedHouse x = new LacedHouse();
+        Due.tell(x, 1, 8, row(40, 7));
+        return x;
+    }
+
+    private static void allAreNothingAgain() {
+        Acts sevens = new Acts(due, SheetEdgesTest::fullOfSevens);
+        sevens.taken("33: 40 anew", x -> x.sheet(1, 8, 40), 40, anew(1, 8, 8, row(40, 7), 40));
+        sevens.taken("33: one, and 40 anew", x -> x.sheet(1, 16, 1) + x.sheet(1, 32, 40), 41, anew(1, 8, 32, row(40, 7), 40));
+        sevens.taken("33: MISSING, and 40 anew", x -> x.sheet(1, 0, 0) + x.sheet(1, 8, 40), 40, anew(1, 8, 8, row(40, 7), 40));
     }
 
     private static void sheetRefused() {

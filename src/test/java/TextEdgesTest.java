@@ -175,13 +175,7 @@ public final class TextEdgesTest {
     }
 
     private static String[] first(int kind, int cell, int size, int aim) {
-        return another(0, kind, cell, size, aim);
-    }
-
-    private static String[] another(int g, int kind, int cell, int size, int aim) {
-        String row = "guest " + g + " ";
-        return new String[] {"guests " + g + " > " + (g + 1), row + "kind none > " + kind, row + "cell none > " + cell,
-            row + "size none > " + size, row + "aim none > " + aim, row + "stuck none > 0", row + "home none > 0"};
+        return Acts.newGuest(0, kind, cell, size, aim);
     }
 
     private static void guestNumbers() {
@@ -232,7 +226,7 @@ public final class TextEdgesTest {
         for (int kind = 0; kind < 7; kind++) {
             String word = words[kind];
             told(empty, word, 1, first(kind, 0, 10, 0));
-            told(lived, ";" + word, 2, with(another(3, kind, 0, 10, 0), "cord 300 > 77", "tape 7 > 0", "text 1 > -1",
+            told(lived, ";" + word, 2, with(Acts.newGuest(3, kind, 0, 10, 0), "cord 300 > 77", "tape 7 > 0", "text 1 > -1",
                 "text cord 77 > none"));
             fault(empty, word + "s", 0);
             fault(empty, word.substring(0, word.length() - 1), 0);
@@ -254,7 +248,7 @@ public final class TextEdgesTest {
     }
 
     private static void eighthAndNinthGuest() {
-        told(sevenDogs, "cook at 3", 1, another(7, Due.COOK, 3, 10, 3));
+        told(sevenDogs, "cook at 3", 1, Acts.newGuest(7, Due.COOK, 3, 10, 3));
         fault(sevenDogs, "cook at 3;boy", 10);
         fault(sevenDogs, "cook at 3;cord 5; boy at 99", 18);
         fault(eightDogs, "cook", 0);

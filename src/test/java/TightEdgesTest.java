@@ -223,6 +223,8 @@ public final class TightEdgesTest {
         due.is("22: none", y.send(1), 0);
         y.set(0, 34 + 46);
         due.is("22: the least of those of one", y.send(1), 1);
+        y.set(0, 34 + 41);
+        due.is("22: one, though two would be a lesser number", y.send(1), 0x80);
         y.set(0, 34);
         due.is("22: the last one alone", y.send(1), 0x80);
         y.set(0, 30);
