@@ -362,7 +362,8 @@ public final class LacedHouse {
         }
         int good = house.measuresToAim(guest);
         int common = commonDivisor(good, House.MEASURES);
-        int base = (what == 0 ? good : House.MEASURES) / common;
+        int part = what == 0 ? good : House.MEASURES;
+        int base = common > 0 ? part / common : part;
         long power = 1;
         for (int i = 0; i < n; i++) {
             power *= base;

@@ -23,6 +23,7 @@ public final class FormTest {
         staticFieldsAreFinal();
         sourceKeepsToTheLanguage();
         methodsAreShort();
+        divisorsAreLookedAt();
         callsMakeNoObjects();
         due.end();
     }
@@ -127,6 +128,27 @@ public final class FormTest {
                 begin = -1;
             }
         }
+    }
+
+    /** Each divisor is a number or a constant above 0, or the lines of its method ask before whether it is 0. */
+    private static void divisorsAreLookedAt() throws Exception {
+        String source = bareSource();
+        Matcher divided = Pattern.compile("[/%]=? *([^\\s;)]+)").matcher(source);
+        int seen = 0;
+        while (divided.find()) {
+            String divisor = divided.group(1);
+            String ahead = source.substring(source.lastIndexOf("\n\n", divided.start()), divided.start());
+            boolean isConstant = divisor.matches("[1-9]\\d*")
+                || divisor.matches("(\\w+\\.)?[A-Z_]+") && isAboveZero(source, divisor.replaceAll(".*\\.", ""));
+            due.holds("divisor " + divisor + " is looked at", isConstant
+                || Pattern.compile("\\b" + Pattern.quote(divisor) + " (> 0|!= 0)").matcher(ahead).find());
+            seen++;
+        }
+        due.holds("divisors are seen", seen > 5);
+    }
+
+    private static boolean isAboveZero(String source, String constant) {
+        return Pattern.compile("static final int " + constant + " = [1-9]\\d*;").matcher(source).find();
     }
 
     /** All calls of a run live in one room, so calls make nothing that stays there. */
